@@ -634,12 +634,12 @@ public final class BedBook {
             this.plantCount = plantCount;
             this.bedCount = bedCount;
             leaveWhatSuits();
-            int moved = 0;
             for (int p = 0; p < plantCount; p++) {
                 if (plants[p].bed != NONE && planned[p] == NONE && !bringIn(p)) {
                     return NONE;
                 }
             }
+            int moved = 0;
             for (int p = 0; p < plantCount; p++) {
                 if (planned[p] != plants[p].bed) {
                     moved++;
@@ -1067,13 +1067,19 @@ public final class BedBook {
             if (depth >= MOST_WITHIN) {
                 return refuse(TOO_MANY);
             }
-            if (kind != OPEN) {
-                draft.addCode(kind, tokens.numbers[at]);
+            if (kind == OPEN) {
                 advance();
-                return true;
+                if (!readAnds(depth + 1)) {
+                    return false;
+                }
+                if (kind != SHUT) {
+                    return refuse(CANT_STAND);
+                }
+            } else {
+                draft.addCode(kind, tokens.numbers[at]);
             }
             advance();
-            return readAnds(depth + 1) && expect(SHUT);
+            return true;
         }
 
         private boolean expect(int wanted) {

@@ -8,6 +8,7 @@ public final class TextsTest {
         promise17InPlaceOfTheOneThereWas();
         promise18May();
         promise18Values();
+        promise18LastOfSixteenLines();
         promise19Send();
         promise20Sent();
         Due.end();
@@ -217,6 +218,17 @@ public final class TextsTest {
         // as many values wait as ever can: in each of four E's the left of an and, of a <, and of a +
         value(x, 0, "1 and 0 < 1 + (1 and 1 < 1 + (1 and 1 < 1 + (1 and 3 = 1 + 2)))", true);
         value(x, 0, "1 and 1 < 1 + (1 and 1 < 1 + (1 and 1 < 1 + (1 and 1 < 1 + 0)))", false);
+    }
+
+    private static void promise18LastOfSixteenLines() {
+        BedBook x = new BedBook();
+        x.wild(1, 1);
+        String zeros = "bar when aim - aim = 1 ;".repeat(15);
+        Due.is("sixteen lines", Due.read(x, zeros + "let when 1 and 1 < 1 + (1 and 1 < 1 + (1 and 1 < 1 + (1 and 3 = 1 + 2)));"), 0);
+        Due.is("lines", x.count(7), 16);
+        Due.is("the last one lets", x.may(0, 1, 1), 1);
+        Due.read(x, zeros + "let when 1 and 1 < 1 + (1 and 1 < 1 + (1 and 1 < 1 + (1 and 4 = 1 + 2)));");
+        Due.is("the last one does not tell", x.may(0, 1, 1), 0);
     }
 
     private static void promise19Send() {
