@@ -5,6 +5,8 @@ import java.util.function.IntSupplier;
 final class Due {
     private static int calls = 0;
     private static int wrong = 0;
+    private static String heading = "";
+    private static Doc doc;
 
     private Due() {
     }
@@ -13,7 +15,26 @@ final class Due {
         calls++;
         if (got != want) {
             wrong++;
-            System.out.println(call + " answered " + got + ", due is " + want);
+            System.out.println(heading + call + " answered " + got + ", due is " + want);
+        }
+    }
+
+    /** The next answers are about these words of the document: of a promise, or of the terms (Doc.TERMS). */
+    static void about(int part, String words) {
+        if (doc == null) {
+            doc = new Doc();
+        }
+        heading = "";
+        yes("the document says, part " + part + ": " + words, doc.says(part, words));
+        heading = (part == Doc.TERMS ? "Terms" : "Promise " + part) + ", \"" + words + "\": ";
+    }
+
+    /** No words of a promise or of the terms may be left that no test was about. */
+    static void allOfTheDocument() {
+        heading = "";
+        for (int part = Doc.TERMS; doc != null && part <= 26; part++) {
+            String rest = doc.untold(part);
+            yes("a test about part " + part + ", \"" + rest + "\"", rest.isEmpty());
         }
     }
 
@@ -30,7 +51,7 @@ final class Due {
         try {
             int got = asked.getAsInt();
             wrong++;
-            System.out.println(call + " answered " + got + ", due is NoSuchElementException");
+            System.out.println(heading + call + " answered " + got + ", due is NoSuchElementException");
         } catch (NoSuchElementException e) {
             // as due
         }
