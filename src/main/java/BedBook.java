@@ -70,7 +70,7 @@ public final class BedBook {
         plants = new Plant[MOST_PLANTS];
         beds = new Bed[MOST_BEDS];
         nameBook = new NameBook();
-        movePlan = new MovePlan(plants, beds);
+        movePlan = new MovePlan();
         tape = new Tape();
         reader = new Reader();
         sendLog = new SendLog();
@@ -197,7 +197,16 @@ public final class BedBook {
     }
 
     public int moves() {
-        return movePlan.fewest(plantCount, bedCount);
+        movePlan.makeEmpty();
+        for (int b = 0; b < bedCount; b++) {
+            movePlan.addBed(beds[b].room);
+        }
+        for (int p = 0; p < plantCount; p++) {
+            if (plants[p].bed != NONE) {
+                movePlan.addPlant(plants[p], beds);
+            }
+        }
+        return movePlan.fewest();
     }
 
     // ---- texts and what is sent
@@ -615,8 +624,8 @@ public final class BedBook {
     private static final class MovePlan {
         private static final int TOO_DEAR = 1000;
 
-        private final Plant[] plants;
-        private final Bed[] beds;
+        /** For each PLANT what each BED costs: nothing if it is its own, TOO_DEAR where the PLANT does not suit. */
+        private final int[] prices = new int[MOST_PLANTS * MOST_BEDS];
         private final int[] planned = new int[MOST_PLANTS];
         private final int[] roomLeft = new int[MOST_BEDS];
         private final int[] cost = new int[MOST_BEDS];
@@ -625,46 +634,52 @@ public final class BedBook {
         private int plantCount;
         private int bedCount;
 
-        MovePlan(Plant[] plants, Bed[] beds) {
-            this.plants = plants;
-            this.beds = beds;
+        void makeEmpty() {
+            plantCount = 0;
+            bedCount = 0;
         }
 
-        int fewest(int plantCount, int bedCount) {
-            this.plantCount = plantCount;
-            this.bedCount = bedCount;
-            leaveWhatSuits();
+        void addBed(int room) {
+            if (bedCount < MOST_BEDS) {
+                roomLeft[bedCount] = room;
+                bedCount++;
+            }
+        }
+
+        /** Adds a PLANT that lies, behind all BEDS; it stays where it lies if it suits that. */
+        void addPlant(Plant plant, Bed[] beds) {
+            if (plantCount >= MOST_PLANTS) {
+                return;
+            }
+            planned[plantCount] = NONE;
+            for (int b = 0; b < bedCount; b++) {
+                boolean suits = plant.suits(beds[b]);
+                boolean stays = suits && plant.bed == b;
+                prices[plantCount * MOST_BEDS + b] = stays ? 0 : suits ? 1 : TOO_DEAR;
+                if (stays) {
+                    planned[plantCount] = b;
+                    roomLeft[b]--;
+                }
+            }
+            plantCount++;
+        }
+
+        int fewest() {
             for (int p = 0; p < plantCount; p++) {
-                if (plants[p].bed != NONE && planned[p] == NONE && !bringIn(p)) {
+                if (planned[p] == NONE && !bringIn(p)) {
                     return NONE;
                 }
             }
             int moved = 0;
             for (int p = 0; p < plantCount; p++) {
-                if (planned[p] != plants[p].bed) {
-                    moved++;
-                }
+                moved += price(p, planned[p]);
             }
             return moved;
         }
 
-        private void leaveWhatSuits() {
-            for (int b = 0; b < bedCount; b++) {
-                roomLeft[b] = beds[b].room;
-            }
-            for (int p = 0; p < plantCount; p++) {
-                int own = plants[p].bed;
-                planned[p] = NONE;
-                if (own != NONE && plants[p].suits(beds[own])) {
-                    planned[p] = own;
-                    roomLeft[own]--;
-                }
-            }
-        }
-
         private boolean bringIn(int newcomer) {
             for (int b = 0; b < bedCount; b++) {
-                cost[b] = plants[newcomer].suits(beds[b]) ? price(newcomer, b) : TOO_DEAR;
+                cost[b] = price(newcomer, b);
                 comer[b] = newcomer;
             }
             spreadCosts();
@@ -698,8 +713,9 @@ public final class BedBook {
             boolean cheaper = false;
             int base = cost[from] - price(p, from);
             for (int b = 0; b < bedCount; b++) {
-                if (base + price(p, b) < cost[b] && plants[p].suits(beds[b])) {
-                    cost[b] = base + price(p, b);
+                int there = price(p, b);
+                if (there < TOO_DEAR && base + there < cost[b]) {
+                    cost[b] = base + there;
                     comer[b] = p;
                     cheaper = true;
                 }
@@ -729,7 +745,7 @@ public final class BedBook {
         }
 
         private int price(int p, int bed) {
-            return plants[p].bed == bed ? 0 : 1;
+            return prices[p * MOST_BEDS + bed];
         }
     }
 
